@@ -3,7 +3,8 @@ import java.util.Random;
 /**
  * Long runs of any calls, with right and wrong arguments, from fixed seeds: nothing throws, an error changes nothing,
  * and the rules of the description hold after every call. The test keeps the offers itself, and so knows what a
- * running router must have selected.
+ * running router must have selected. With its questions a run goes past the 512 calls of the document: the class
+ * keeps no count of calls, and is held to the same rules there.
  */
 public final class AnyRunTest {
     private static final int RUNS = 300;
