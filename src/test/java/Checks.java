@@ -2,24 +2,33 @@
 final class Checks {
     private static int wrong = 0;
     private static int asked = 0;
+    private static String sentence = "";
 
     private Checks() {
+    }
+
+    /** The words of the document that the checks from here on hold to; they are printed behind a wrong answer. */
+    static void sentence(String words) {
+        sentence = words;
     }
 
     static void due(String call, long got, long want) {
         asked++;
         if (got != want) {
-            wrong++;
-            System.out.println("  " + call + " answered " + got + ", due is " + want);
+            tell(call + " answered " + got + ", due is " + want);
         }
     }
 
     static void holds(String what, boolean truth) {
         asked++;
         if (!truth) {
-            wrong++;
-            System.out.println("  does not hold: " + what);
+            tell("does not hold: " + what);
         }
+    }
+
+    private static void tell(String fault) {
+        wrong++;
+        System.out.println("  " + fault + (sentence.isEmpty() ? "" : " [" + sentence + "]"));
     }
 
     static void finish() {
