@@ -11,6 +11,7 @@ public final class DeferralEdgesTest {
         reconnectWhileRunning();
         reconnectDoesNotEndDeferral();
         disconnectInEachState();
+        disconnectIsNotGraceful();
         disconnectOfTheLastAwaited();
         disconnectWhileRunning();
         marksOfBothTables();
@@ -116,6 +117,13 @@ public final class DeferralEdgesTest {
             + "disconnect(0) = 0; sessionState(0) = 2; disconnect(0) = -4");
         Script.play("WRONG_STATE if the session is DOWN", "addPeer(true); restart(true); tick(10); sessionState(0) = 2;"
             + "disconnect(0) = -4");
+    }
+
+    private static void disconnectIsNotGraceful() {
+        Script.play("Ends the session of a peer for good, without graceful restart", "addPeer(true); addPeer(true);"
+            + "announce(0, 0, 0, 5); sessionState(1) = 0; disconnect(1) = 1; sessionState(1) = 2; restartTimer(1) = 0;"
+            + "staleTimer(1) = 0; learnedLength(1, 0, 0) = -6; isDeferring() = 0; tick(100) = 0; reconnect(1) = 0;"
+            + "staleTimer(1) = 0; learnedLength(1, 0, 0) = 6; isLearnedStale(1, 0, 0) = 0");
     }
 
     private static void disconnectOfTheLastAwaited() {

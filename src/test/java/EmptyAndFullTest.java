@@ -1,7 +1,9 @@
 /** Nothing there yet and everything there already: peers, offers, learned routes, entries and marks. */
 public final class EmptyAndFullTest {
     public static void main(String[] args) {
+        newObject();
         noPeer();
+        restartWithoutPeers();
         fivePeers();
         fullInEveryState();
         fullLeavesThePeersAlone();
@@ -18,10 +20,14 @@ public final class EmptyAndFullTest {
         Checks.finish();
     }
 
-    private static void noPeer() {
+    private static void newObject() {
         Script.play("There are no peers; the router is running; restart time 10, stale time 20, deferral time 15.",
             "isDeferring() = 0; deferralTimer() = 0; waitingPeers() = 0; loopCount() = 0; sessionState(0) = -1;"
             + "setRestartTime(1) = 10; setStaleTime(1) = 20; setDeferralTime(1) = 15; tick(100) = 0; tick(1) = 0");
+        noEntries(new GracefulRestart());
+    }
+
+    private static void noPeer() {
         String words = "NO_SUCH_PEER: The peer does not exist.";
         for (int peer = 0; peer < 6; peer++) {
             Script.play(words, ("announce(#, 0, 0, 1) = -1; withdraw(#, 0, 0) = -1; reconnect(#) = -1;"
@@ -29,6 +35,9 @@ public final class EmptyAndFullTest {
                 + "staleTimer(#) = -1; learnedLength(#, 0, 0) = -1; isLearnedStale(#, 0, 0) = -1;"
                 + "forward(#, 0, 0) = -1; reachableCount(#) = -1").replace("#", "" + peer));
         }
+    }
+
+    private static void restartWithoutPeers() {
         for (boolean preserve : new boolean[] {true, false}) {
             GracefulRestart x = Script.play("Deferral ends as soon as the router waits for no peer", "restart(" + preserve
                 + ") = 0; isDeferring() = 0; deferralTimer() = 0; waitingPeers() = 0");

@@ -68,6 +68,10 @@ public final class FaceTest {
         privateNames.retainAll(openNames);
         Checks.holds("no private method bears a public one's name: " + privateNames, privateNames.isEmpty());
         fields(face);
+        for (Class<?> inside : face.getDeclaredClasses()) {
+            Checks.holds(inside + " is static, not public", Modifier.isStatic(inside.getModifiers())
+                && !Modifier.isPublic(inside.getModifiers()) && !Modifier.isProtected(inside.getModifiers()));
+        }
     }
 
     private static String parameters(Method method) {
@@ -99,6 +103,9 @@ public final class FaceTest {
         for (String word : FORBIDDEN) {
             Checks.holds("the class does without '" + word + "'", !used.contains(word));
         }
+        // The class needs nothing of the library, so every name of a type in it is its own.
+        used.removeIf(word -> !word.matches("[A-Z]\\w*[a-z]\\w*"));
+        Checks.holds("the types " + used, used.equals(Set.of("GracefulRestart", "Peer")));
         Checks.holds("no lambda, no method reference", !code.contains("->") && !code.contains("::"));
     }
 }

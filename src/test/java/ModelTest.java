@@ -35,6 +35,7 @@ public final class ModelTest {
     }
 
     public static void main(String[] args) throws Exception {
+        Checks.sentence("An object is used for at most 512 calls after it has been made");
         int[] reached = new int[20];
         for (int seed = 0; seed < RUNS; seed++) {
             new ModelTest(seed).run("seed " + seed, reached);

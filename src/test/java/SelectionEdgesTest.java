@@ -8,6 +8,7 @@ public final class SelectionEdgesTest {
         changesOfTheNextHop();
         sameOfferAgain();
         pairsAreSeparate();
+        offersInEveryState();
         offersOutliveSessions();
         offersOutliveTheRestartTimer();
         onlyOffersOfPeersThatAreUp();
@@ -125,6 +126,16 @@ public final class SelectionEdgesTest {
             }
             Checks.due("reachableCount(0)", x.reachableCount(0), 1);
         }
+    }
+
+    private static void offersInEveryState() {
+        Script.play("A peer can do this in any session state, but the router knows the offer only while the session is UP.",
+            "addPeer(true); addPeer(true); announce(0, 0, 0, 5) = 0; nextHop(0, 0) = 0; setDeferralTime(1); restart(true);"
+            + "sessionState(0) = 1; announce(0, 0, 0, 6) = 5; announce(0, 0, 1, 7) = 0; tick(1); isDeferring() = 0;"
+            + "sessionState(0) = 1; nextHop(0, 0) = -6; announce(0, 0, 0, 8) = 6; nextHop(0, 0) = -6; disconnect(0);"
+            + "sessionState(0) = 2; announce(0, 0, 0, 9) = 8; announce(0, 0, 2, 1) = 0; nextHop(0, 0) = -6;"
+            + "withdraw(0, 0, 2) = 1; reconnect(0) = 2; nextHop(0, 0) = 0; nextHop(0, 1) = 0; nextHop(0, 2) = -6;"
+            + "reconnect(1) = 0; learnedLength(1, 0, 0) = 10; learnedLength(1, 0, 1) = 8");
     }
 
     private static void offersOutliveSessions() {

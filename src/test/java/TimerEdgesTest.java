@@ -86,7 +86,8 @@ public final class TimerEdgesTest {
             + "learnedLength(1, 1, 7) = 5; tick(1) = 2; restartTimer(1) = 0; sessionState(1) = 2;"
             + "learnedLength(1, 1, 7) = -6; isLearnedStale(1, 0, 0) = -6; sessionState(0) = 2; sessionState(2) = 0;"
             + "learnedLength(2, 0, 0) = 5; isDeferring() = 1; waitingPeers() = 4; tick(1) = 0");
-        Script.play("the peer becomes DOWN: it can be reconnected in the last tick but not helped after it",
+        // With one tick left the peer still helps; with none it is DOWN, and no stale timer starts.
+        Script.play("If the peer was HELPING, its restart timer stops and its stale timer starts with the stale time.",
             "addPeer(true); addPeer(true); announce(0, 0, 0, 4); restart(true); tick(9); reconnect(1) = 0;"
             + "staleTimer(1) = 20; isLearnedStale(1, 0, 0) = 1; tick(1) = 0; reconnect(0) = 1; staleTimer(0) = 0");
     }
@@ -129,7 +130,7 @@ public final class TimerEdgesTest {
             + "sessionState(1) = 2; isDeferring() = 0; nextHop(0, 0) = 2; isEntryStale(0, 0) = 0;"
             + "learnedLength(1, 0, 0) = -6");
         // One tick less for deferral: the helpers are still there when it ends, and go down one tick later.
-        Script.play("Peers that are HELPING keep their routes when deferral ends",
+        Script.play("Then every peer that is UP removes its learned routes that are still stale",
             "addPeer(true); addPeer(true); addPeer(false); announce(2, 0, 0, 4); setRestartTime(7); setDeferralTime(6);"
             + "restart(true); tick(6) = 0; isDeferring() = 0; nextHop(0, 0) = -6; sessionState(0) = 1;"
             + "isLearnedStale(0, 0, 0) = 1; forward(0, 0, 0) = -7; tick(1) = 2; sessionState(0) = 2; sessionState(1) = 2");
