@@ -12,7 +12,7 @@ public final class RefusedTest {
         "tick(1)",
         "addPeer(true)",
         "addPeer(true); addPeer(false); addPeer(true); announce(0, 0, 0, 5); announce(1, 0, 0, 5); announce(2, 1, 7, 20);"
-            + "endOfTable(0, 0); disconnect(2)",
+            + "announce(2, 0, 0, 4); endOfTable(0, 0); endOfTable(2, 0); endOfTable(2, 1); disconnect(2)",
         "addPeer(true); addPeer(true); addPeer(false); addPeer(false); addPeer(true); announce(0, 0, 0, 1);"
             + "announce(1, 0, 0, 1); announce(2, 0, 0, 1); announce(3, 0, 0, 1); announce(4, 0, 0, 1)",
         // Deferring: UP with one mark, HELPING, DOWN, not graceful; with the forwarding table and without it.
@@ -80,21 +80,26 @@ public final class RefusedTest {
         return answers.toString();
     }
 
-    /** What shows hidden state: the offers; the marks; the times and timers; another restart. */
+    /**
+     * What shows hidden state: the offers; the marks, with and without a reconnection before; the times and timers;
+     * another restart. A refused call in a run hides what the same call did before it, so no run has all of them.
+     */
     private static String[] laterRuns() {
         StringBuilder offers = new StringBuilder("reconnect(0)");
         StringBuilder marks = new StringBuilder("tick(1)");
+        StringBuilder bareMarks = new StringBuilder("tick(1)");
         for (int peer = 0; peer < 5; peer++) {
             for (int route = 0; route < 16; route++) {
                 offers.append(";withdraw(" + peer + ", " + route / 8 + ", " + route % 8 + ")");
             }
             marks.append(";reconnect(" + peer + ")");
             marks.append(";endOfTable(" + peer + ", 0);endOfTable(" + peer + ", 1)");
+            bareMarks.append(";endOfTable(" + peer + ", 0);endOfTable(" + peer + ", 1)");
         }
         String times = "restart(true);setRestartTime(3);setStaleTime(4);setDeferralTime(6);reconnect(0);reconnect(1)"
             + ";tick(1);tick(1);restart(true);tick(1);reconnect(2);reconnect(3);tick(1);tick(1);tick(1);tick(1);tick(1)";
         String more = "tick(1);addPeer(true);tick(1);reconnect(1);disconnect(0);restart(false);reconnect(0);tick(100)";
-        return new String[] {offers.toString(), marks.toString(), times, more};
+        return new String[] {offers.toString(), marks.toString(), bareMarks.toString(), times, more};
     }
 
     /** Every kind of refused call in a scene, each with the error that is due. */
