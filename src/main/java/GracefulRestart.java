@@ -200,12 +200,10 @@ public final class GracefulRestart {
             return WRONG_STATE;
         }
         int mark = 1 << table;
-        if ((marking.marks & mark) != 0) {
-            return 0;
-        }
+        int answer = (marking.marks & mark) == 0 ? 1 : 0;
         marking.marks |= mark;
         checkDeferral();
-        return 1;
+        return answer;
     }
 
     public int tick(int ticks) {

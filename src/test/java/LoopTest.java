@@ -1,8 +1,6 @@
-import java.lang.reflect.Field;
-
 /**
- * LOOPED, in promises 23 to 25. No run of calls comes to it: a next hop never has a learned route. So this test, and it
- * alone, reaches into the object and bends its forwarding table (the field hops) back to the peer that sends.
+ * LOOPED, in promises 23 to 25. No run of calls comes to it: a next hop never has a learned route. So this test bends
+ * the forwarding table inside the object back to the peer that sends.
  */
 public final class LoopTest {
     public static void main(String[] args) throws Exception {
@@ -12,21 +10,15 @@ public final class LoopTest {
         Checks.finish();
     }
 
-    private static void bend(GracefulRestart x, int route, int hop) throws ReflectiveOperationException {
-        Field hops = GracefulRestart.class.getDeclaredField("hops");
-        hops.setAccessible(true);
-        ((int[]) hops.get(x))[route] = hop;
-    }
-
     private static void onePacket() throws ReflectiveOperationException {
         GracefulRestart x = Script.play("LOOPED if the next hop is the sending peer",
             "addPeer(true); addPeer(true); addPeer(true); announce(0, 1, 7, 4); announce(0, 0, 0, 4); loopCount() = 0");
-        bend(x, 15, 1);
+        Inside.bendHop(x, 15, 1);
         Script.go(x, "forward(1, 1, 7) = -8; forward(2, 1, 7) = 1; forward(0, 1, 7) = -6; forward(1, 0, 0) = 0;"
             + "reachableCount(1) = 1; reachableCount(2) = 2; loopCount() = 1");
-        bend(x, 0, 1);
+        Inside.bendHop(x, 0, 1);
         Script.go(x, "forward(1, 0, 0) = -8; reachableCount(1) = 0; reachableCount(2) = 2; loopCount() = 2");
-        bend(x, 0, 2);
+        Inside.bendHop(x, 0, 2);
         Script.go(x, "forward(1, 0, 0) = 2; forward(2, 0, 0) = -8; reachableCount(1) = 1; reachableCount(2) = 1;"
             + "loopCount() = 2");
     }
@@ -36,7 +28,7 @@ public final class LoopTest {
         GracefulRestart x = Checks.withPeers("ggggg");
         for (int route = 0; route < 16; route++) {
             x.announce(0, route / 8, route % 8, 4);
-            bend(x, route, 4);
+            Inside.bendHop(x, route, 4);
             Checks.due("loopCount()", x.loopCount(), route + 1);
         }
         Script.go(x, "reachableCount(4) = 0; reachableCount(3) = 16; reachableCount(0) = 0");
@@ -50,7 +42,7 @@ public final class LoopTest {
         }
         Checks.due("loopCount()", x.loopCount(), 0);
         for (int peer = 0; peer < 5; peer++) {
-            bend(x, peer, peer);
+            Inside.bendHop(x, peer, peer);
             Checks.due("forward", x.forward(peer, 0, peer), -8);
             Checks.due("loopCount()", x.loopCount(), peer + 1);
         }
