@@ -7,11 +7,10 @@ final class Checks {
     private Checks() {
     }
 
-    /**
-     * The words of the document that the checks from here on hold to; they are printed behind a wrong answer. " .. "
-     * leaves words out, and a method's name with a colon may stand before what the document says of it.
-     */
+    /** The words of the document (see Document.says) that the checks from here on hold to; printed with a fault. */
     static void sentence(String words) {
+        sentence = "";
+        holds("the document says: " + words, Document.says(words));
         sentence = words;
     }
 

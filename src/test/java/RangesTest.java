@@ -29,7 +29,7 @@ public final class RangesTest {
     }
 
     private static void restartTimes() {
-        String words = "Sets the restart time. ticks: 1 to 50";
+        String words = "Sets the restart time. .. ticks: 1 to 50";
         Script.play(words, "addPeer(true) = 0; setRestartTime(1) = 10; setRestartTime(0) = -3; setRestartTime(-1) = -3;"
             + "setRestartTime(MIN) = -3; restart(true) = 1; restartTimer(0) = 1; tick(1) = 0; sessionState(0) = 2");
         Script.play(words, "addPeer(true) = 0; setRestartTime(50) = 10; setRestartTime(51) = -3;"
@@ -39,7 +39,7 @@ public final class RangesTest {
     }
 
     private static void staleTimes() {
-        String words = "Sets the stale time. ticks: 1 to 50";
+        String words = "Sets the stale time. .. ticks: 1 to 50";
         Script.play(words, "addPeer(true) = 0; setStaleTime(1) = 20; setStaleTime(0) = -3; setStaleTime(-1) = -3;"
             + "setStaleTime(MIN) = -3; restart(true) = 1; reconnect(0) = 0; staleTimer(0) = 1; tick(1) = 0;"
             + "staleTimer(0) = 0");
@@ -50,7 +50,7 @@ public final class RangesTest {
     }
 
     private static void deferralTimes() {
-        String words = "Sets the deferral time. ticks: 1 to 50";
+        String words = "Sets the deferral time. .. ticks: 1 to 50";
         Script.play(words, "addPeer(true) = 0; setDeferralTime(1) = 15; setDeferralTime(0) = -3;"
             + "setDeferralTime(-1) = -3; setDeferralTime(MIN) = -3; restart(true) = 1; deferralTimer() = 1;"
             + "isDeferring() = 1; tick(1) = 0; isDeferring() = 0");

@@ -23,25 +23,26 @@ public final class TimerEdgesTest {
     }
 
     private static void stoppedTimersAreZero() {
-        String words = "A timer that is stopped has the value 0.";
-        Script.play(words, "deferralTimer() = 0; addPeer(true); addPeer(false); restartTimer(0) = 0; staleTimer(0) = 0;"
-            + "restartTimer(1) = 0; staleTimer(1) = 0");
-        Script.play(words + " its restart timer stops", "addPeer(true); restart(true); restartTimer(0) = 10;"
-            + "reconnect(0); restartTimer(0) = 0");
-        Script.play(words + " its stale timer stops", "addPeer(true); restart(true); reconnect(0); staleTimer(0) = 20;"
-            + "restart(true) = 1; staleTimer(0) = 0; restartTimer(0) = 10");
-        Script.play(words + " its deferral timer stops", "addPeer(true); restart(true); tick(3); deferralTimer() = 12;"
-            + "reconnect(0); endOfTable(0, 0); deferralTimer() = 12; endOfTable(0, 1); deferralTimer() = 0;"
-            + "staleTimer(0) = 0");
-        Script.play(words + " disconnect: its timers stop", "addPeer(true); addPeer(true); restart(true); reconnect(0);"
-            + "staleTimer(0) = 20; disconnect(0); staleTimer(0) = 0; restartTimer(0) = 0; restartTimer(1) = 10;"
-            + "disconnect(1); restartTimer(1) = 0; staleTimer(1) = 0; deferralTimer() = 0");
-        Script.play(words + " reconnect while running: its stale timer stops", "addPeer(true); setRestartTime(50);"
-            + "setDeferralTime(1); restart(true); tick(1); isDeferring() = 0; restartTimer(0) = 49; reconnect(0);"
-            + "restartTimer(0) = 0; staleTimer(0) = 0");
-        Script.play(words + " a peer that was DOWN starts none", "addPeer(true); addPeer(true); addPeer(false);"
-            + "disconnect(0); restart(true); reconnect(0); reconnect(2); restartTimer(0) = 0; staleTimer(0) = 0;"
-            + "restartTimer(2) = 0; staleTimer(2) = 0");
+        Script.play("A timer that is stopped has the value 0.", "deferralTimer() = 0; addPeer(true); addPeer(false);"
+            + "restartTimer(0) = 0; staleTimer(0) = 0; restartTimer(1) = 0; staleTimer(1) = 0");
+        Script.play("If the peer was HELPING, its restart timer stops", "addPeer(true); restart(true);"
+            + "restartTimer(0) = 10; reconnect(0); restartTimer(0) = 0");
+        Script.play("its stale timer stops, and its restart timer starts with the restart time", "addPeer(true);"
+            + "restart(true); reconnect(0); staleTimer(0) = 20; restart(true) = 1; staleTimer(0) = 0;"
+            + "restartTimer(0) = 10");
+        Script.play("When deferral ends, the router is running, its deferral timer stops", "addPeer(true);"
+            + "restart(true); tick(3); deferralTimer() = 12; reconnect(0); endOfTable(0, 0); deferralTimer() = 12;"
+            + "endOfTable(0, 1); deferralTimer() = 0; staleTimer(0) = 0");
+        Script.play("its learned routes are removed, and its timers stop", "addPeer(true); addPeer(true);"
+            + "restart(true); reconnect(0); staleTimer(0) = 20; disconnect(0); staleTimer(0) = 0; restartTimer(0) = 0;"
+            + "restartTimer(1) = 10; disconnect(1); restartTimer(1) = 0; staleTimer(1) = 0; deferralTimer() = 0");
+        Script.play("(the router has told it the end of the table), and its stale timer stops", "addPeer(true);"
+            + "setRestartTime(50); setDeferralTime(1); restart(true); tick(1); isDeferring() = 0; restartTimer(0) = 49;"
+            + "reconnect(0); restartTimer(0) = 0; staleTimer(0) = 0");
+        // One that was DOWN was not HELPING, so no timer of it starts.
+        Script.play("If the peer was HELPING .. its stale timer starts with the stale time", "addPeer(true);"
+            + "addPeer(true); addPeer(false); disconnect(0); restart(true); reconnect(0); reconnect(2);"
+            + "restartTimer(0) = 0; staleTimer(0) = 0; restartTimer(2) = 0; staleTimer(2) = 0");
     }
 
     private static void stoppedTimersStayZero() {
